@@ -55,8 +55,7 @@ public final class ShortCut {
     private final Walk earlier = new Walk();
     private final Walker walker = new Walker();
 
-    private final Tape tape = new Tape();
-    private final Reader reader = new Reader(tape);
+    private final Reader reader = new Reader();
     private final Sheet[] sheets = new Sheet[SHEETS];
     private final Slot[] slots = new Slot[SLOTS];
     private final int[] waiting = new int[MOST_WAITING];
@@ -363,6 +362,7 @@ public final class ShortCut {
     // ---- texts
 
     public int feed(int a, int b, int c) {
+        Tape tape = reader.tape;
         if (tape.room() < 12) {
             return FULL;
         }
@@ -373,16 +373,16 @@ public final class ShortCut {
     }
 
     public int trim(int n) {
-        if (!isWithin(n, 0, tape.size)) {
+        if (!isWithin(n, 0, reader.tape.size)) {
             return BAD;
         }
-        tape.size = n;
+        reader.tape.size = n;
         return n;
     }
 
     public int text() {
         boolean whole = reader.readsWhole();
-        tape.size = 0;
+        reader.tape.size = 0;
         if (!whole) {
             return FAULTY - reader.start;
         }
@@ -634,7 +634,7 @@ public final class ShortCut {
             case 6: return land.saidInAll();
             case 7: return land.textCount;
             case 8: return waits;
-            case 9: return tape.size;
+            case 9: return reader.tape.size;
             case 10: return land.lot;
             default: return BAD;
         }
@@ -697,7 +697,7 @@ public final class ShortCut {
 
         boolean isOf(int wantedKind) {
             int k = kind;
-            for (int up = 0; up < KINDS && isKind(k); up++) {
+            for (int up = 0; up < KINDS && k >= 0 && k < KINDS; up++) {
                 if (k == wantedKind) {
                     return true;
                 }
@@ -1135,12 +1135,12 @@ public final class ShortCut {
         }
     }
 
-    /** Reads a tape as a text; when it can't, start is the place of the fault. */
+    /** Reads its tape as a text; when it can't, start is the place of the fault. */
     private static final class Reader {
         private static final int END = 0, LETTERS = 1, DIGITS = 2, SIGN = 3, GLUED = 4;
         private static final int LOOSEST = 0, TEST = 2, PIECE = 5;
 
-        private final Tape tape;
+        final Tape tape = new Tape();
         int start = 0;
         private int end = 0;
         private int token = END;
@@ -1150,10 +1150,6 @@ public final class ShortCut {
         private int operands = 0;
         private int openBrackets = 0;
         private int openNots = 0;
-
-        Reader(Tape tape) {
-            this.tape = tape;
-        }
 
         boolean readsWhole() {
             end = 0;

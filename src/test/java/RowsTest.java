@@ -9,6 +9,8 @@ public final class RowsTest {
         checkOfThirty();
         keep();
         back();
+        backToTheFirst();
+        backToFull();
         count();
         due.end("RowsTest");
     }
@@ -51,6 +53,10 @@ public final class RowsTest {
         due.is("39 the first is not", x.check(0, 1, 2), 1);
         tell(x, 19, 3, 18, 3);
         due.is("39 the second is not", x.check(0, 1, 2), 2);
+        tell(x, 19, 2, 17, 3);
+        due.is("39 the third is not", x.check(0, 1, 2), 3);
+        tell(x, 19, 2);
+        due.is("39 the third is missing", x.check(0, 1, 2), 3);
         tell(x, 19, 2, 18, 4);
         due.is("39 the fourth is not", x.check(0, 1, 2), 4);
         tell(x, 0, 1);
@@ -144,6 +150,37 @@ public final class RowsTest {
         Due.putText(x, "think 5");
         due.is("41 again", x.back(), 1);
         isAsKept(x);
+    }
+
+    private static void backToTheFirst() {
+        ShortCut x = new ShortCut();
+        x.keep();
+        x.bit(0, 0, 1, 20);
+        x.walk(0, 1);
+        for (int i = 0; i < 14; i++) {
+            Due.putText(x, "fine 5");
+        }
+        due.is("41 no bits", x.back(), 0);
+        due.is("41 no walk", x.latest(0), Due.NONE);
+        due.is("41 no try", x.tried(0), Due.NONE);
+        due.is("41 no text", x.why(2), Due.NONE);
+        due.is("41 no text", x.textTold(0, 0), Due.BAD);
+        due.is("41 from 0 on", x.bit(0, 0, 1, 30), 0);
+        due.is("41 a new bit is not trodden", x.told(0, 4), 0);
+        due.is("41 nothing was said of it", x.told(0, 5), Due.NONE);
+        due.is("41 texts from 0 on", Due.putText(x, "think 5"), 0);
+    }
+
+    private static void backToFull() {
+        ShortCut x = new ShortCut();
+        x.deal(14);
+        for (int i = 0; i < 14; i++) {
+            Due.putText(x, "fine " + i);
+        }
+        due.is("40 full", x.keep(), 14);
+        due.is("41 full", x.back(), 14);
+        due.is("41 all texts", x.count(7), 14);
+        due.is("41 the last one counts", x.fine(), 13);
     }
 
     private static void isAsKept(ShortCut x) {

@@ -10,6 +10,7 @@ public final class TextsTest {
         values();
         faults();
         open();
+        anew();
         full();
         textTold();
         why();
@@ -120,7 +121,9 @@ public final class TextsTest {
         gives("2>2", 0);
         gives("1+1=2", 1);
         gives("(1<2)=1", 1);
+        gives("1&1", 1);
         gives("2&4", 1);
+        gives("0&4", 0);
         gives("2&0", 0);
         gives("0&0", 0);
         gives("0|0", 0);
@@ -155,6 +158,13 @@ public final class TextsTest {
         fault("takes l", 0);
         fault("Take l", 0);
         fault("  tak l", 2);
+        fault("bake l", 0);
+        fault("taka l", 0);
+        fault("shink s", 0);
+        fault("wine m", 0);
+        fault("take la", 5);
+        fault("take lz", 5);
+        fault("take az", 5);
         fault("12", 0);
         fault("take1", 4);
         fault("take12345", 4);
@@ -226,6 +236,22 @@ public final class TextsTest {
         due.is("26 its value", x.fine(), 54);
         due.is("27 its numbers", x.textTold(0, 1), 45);
         fault("fine 10" + "+1".repeat(44) + "+", 96);
+    }
+
+    /** What a faulty text left open is no burden to the next one. */
+    private static void anew() {
+        ShortCut x = new ShortCut();
+        Due.putText(x, "take ((((((((l");
+        due.is("26 ( anew", Due.putText(x, "take " + "(".repeat(8) + "l" + ")".repeat(8)), 0);
+        Due.putText(x, "take !!!!!!!!");
+        due.is("26 ! anew", Due.putText(x, "take " + "!".repeat(8) + "l"), 1);
+        Due.putText(x, "take 1+2+3+ll");
+        due.is("26 words anew", Due.putText(x, "take l"), 2);
+        due.is("27 numbers anew", x.textTold(2, 1), 1);
+        Due.putText(x, "take 1 2");
+        due.is("26 words anew", Due.putText(x, "take 7"), 3);
+        x.bit(0, 0, 1, 30);
+        due.is("26 its value", x.told(0, 6), 7);
     }
 
     private static void full() {

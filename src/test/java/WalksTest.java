@@ -8,6 +8,7 @@ public final class WalksTest {
         barred();
         longest();
         turnsTwice();
+        knowsAtOnce();
         most();
         latest();
         tried();
@@ -105,6 +106,10 @@ public final class WalksTest {
         due.is("10 TRODDEN", x.told(3, 4), 8);
         due.is("10 all TRODDEN", x.count(5), 48);
         due.is("10 SAID of a barred one stays", x.told(13, 5), 70);
+        due.is("13 of 14", x.hush(), 14);
+        due.is("14 with 14 bits", x.best(0, 6), 6);
+        due.is("18 with 14 bits, four barred ones first (by guesses 40 are less than 120)", x.look(0, 6, 1), 4 + 6);
+        due.is("19 with 14 bits", x.wanted(0, 6), 0);
     }
 
     /** A walk that ends at the goal by its last bit, though all others are found barred. */
@@ -122,6 +127,34 @@ public final class WalksTest {
         }
         due.is("10 what was said of streams is nothing", x.count(6), 2);
         due.is("10 so it tries them again", x.walk(0, 2), 92);
+    }
+
+    /** What a bit took is known at once: back by it (90 and 20) is more than on (50 and 50). */
+    private static void knowsAtOnce() {
+        ShortCut x = new ShortCut();
+        x.bit(0, 0, 1, 90);
+        x.bit(4, 1, 3, 5);
+        x.bit(0, 1, 2, 7);
+        x.bit(0, 2, 3, 8);
+        x.bit(5, 0, 3, 40);
+        x.set(2, 5, 50);
+        x.set(3, 5, 50);
+        x.set(4, 5, 41);
+        x.rule(0, 1);
+        due.is("10 there, barred, on", x.walk(0, 3), 90 + 1 + 7 + 8);
+        due.is("12 on", x.tried(2), 2);
+        ShortCut y = new ShortCut();
+        y.bit(0, 0, 1, 5);
+        y.bit(4, 1, 3, 5);
+        y.bit(0, 1, 2, 7);
+        y.bit(0, 2, 3, 8);
+        y.bit(5, 0, 3, 40);
+        y.set(2, 5, 30);
+        y.set(3, 5, 30);
+        y.set(4, 5, 50);
+        y.rule(0, 1);
+        due.is("10 there, barred, back (5 and 50 are less than 30 and 30)", y.walk(0, 3), 5 + 1 + 5 + 40);
+        due.is("12 back", y.tried(2), 0);
     }
 
     private static void most() {

@@ -127,10 +127,36 @@ public final class WillBeTest {
         due.is("18 what below", x.look(0, 3, -1), Due.BAD);
         due.is("18 what above", x.look(0, 3, 2), Due.BAD);
         refusesSpots("18 look", (f, t) -> x.look(f, t, 0));
+        ShortCut y = new ShortCut();
+        y.bit(0, 0, 1, 50);
+        y.bit(0, 0, 1, 10);
+        y.bit(0, 0, 1, 40);
+        y.set(0, 5, 15);
+        y.set(2, 5, 16);
+        due.is("18 what nobody thought of", y.look(0, 1, 0), 1);
+        due.is("18 what nobody thought of", y.look(0, 1, 1), 10);
+        lookSaysNoMore();
         ShortCut none = new ShortCut();
         due.is("18 no bits", none.look(0, 1, 0), Due.NONE);
         due.is("18 no bits", none.look(0, 1, 1), Due.NONE);
         due.is("18 BAD stands ahead of NONE", none.look(0, 1, 2), Due.BAD);
+    }
+
+    /** 999 are SAID of 1998, and round is thought to be 1200: no look helps. */
+    private static void lookSaysNoMore() {
+        ShortCut x = new ShortCut();
+        x.bit(2, 0, 1, 9);
+        x.bit(5, 0, 2, 50);
+        x.bit(5, 2, 1, 50);
+        x.set(1, 5, 600);
+        x.set(2, 5, 600);
+        x.rule(0, 1);
+        Due.putText(x, "take 999");
+        due.is("18 999 at most", x.look(0, 1, 1), 1998);
+        due.is("18 999 at most", x.look(0, 1, 0), 0);
+        x.set(1, 5, 499);
+        x.set(2, 5, 499);
+        due.is("18 round is less", x.look(0, 1, 1), 100);
     }
 
     private static void wanted() {
@@ -155,6 +181,14 @@ public final class WillBeTest {
         due.is("19 without 2 no way", y.wanted(0, 2), 2);
         Due.putText(y, "take 999");
         due.is("19 without 0 it is 1008, without 2 it is 999", y.wanted(0, 2), 0);
+        ShortCut z = new ShortCut();
+        z.bit(5, 1, 2, 1);
+        z.bit(5, 0, 1, 1);
+        z.bit(0, 0, 1, 1);
+        Due.putText(z, "take 999");
+        due.is("19 without 0 it is 999, without 1 it is 1000", z.wanted(0, 2), 1);
+        Due.putText(z, "take 998");
+        due.is("19 999 both", z.wanted(0, 2), 0);
     }
 
     private static void reach() {
