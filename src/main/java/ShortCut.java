@@ -393,10 +393,10 @@ public final class ShortCut {
     }
 
     public int textTold(int text, int what) {
-        if (!isWithin(text, 0, land.textCount - 1)) {
+        Text t = land.textAt(text);
+        if (t == null) {
             return BAD;
         }
-        Text t = land.texts[text];
         switch (what) {
             case 0: return t.key;
             case 1: return t.operands;
@@ -831,9 +831,14 @@ public final class ShortCut {
             return textCount - 1;
         }
 
-        Text textFor(int key) {
-            int number = ruling[key];
+        /** null, if there is no such text. */
+        Text textAt(int number) {
             return isWithin(number, 0, textCount - 1) ? texts[number] : null;
+        }
+
+        /** The one that counts for a key, or null. */
+        Text textFor(int key) {
+            return textAt(ruling[key]);
         }
 
         int takes(Bit b) {

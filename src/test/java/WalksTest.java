@@ -129,30 +129,26 @@ public final class WalksTest {
         due.is("10 so it tries them again", x.walk(0, 2), 92);
     }
 
-    /** What a bit took is known at once: back by it (90 and 20) is more than on (50 and 50). */
-    private static void knowsAtOnce() {
+    /** Behind bit 0 stands a barred stream: from there on by 2 and 3, or back by 0 and then the road. */
+    private static ShortCut fork(int firstLong, int saidOn, int saidRoad) {
         ShortCut x = new ShortCut();
-        x.bit(0, 0, 1, 90);
+        x.bit(0, 0, 1, firstLong);
         x.bit(4, 1, 3, 5);
         x.bit(0, 1, 2, 7);
         x.bit(0, 2, 3, 8);
         x.bit(5, 0, 3, 40);
-        x.set(2, 5, 50);
-        x.set(3, 5, 50);
-        x.set(4, 5, 41);
+        x.set(2, 5, saidOn);
+        x.set(3, 5, saidOn);
+        x.set(4, 5, saidRoad);
         x.rule(0, 1);
-        due.is("10 there, barred, on", x.walk(0, 3), 90 + 1 + 7 + 8);
+        return x;
+    }
+
+    private static void knowsAtOnce() {
+        ShortCut x = fork(90, 50, 41);
+        due.is("10 there, barred, on (50 and 50 are less than 90 and 41)", x.walk(0, 3), 90 + 1 + 7 + 8);
         due.is("12 on", x.tried(2), 2);
-        ShortCut y = new ShortCut();
-        y.bit(0, 0, 1, 5);
-        y.bit(4, 1, 3, 5);
-        y.bit(0, 1, 2, 7);
-        y.bit(0, 2, 3, 8);
-        y.bit(5, 0, 3, 40);
-        y.set(2, 5, 30);
-        y.set(3, 5, 30);
-        y.set(4, 5, 50);
-        y.rule(0, 1);
+        ShortCut y = fork(5, 30, 50);
         due.is("10 there, barred, back (5 and 50 are less than 30 and 30)", y.walk(0, 3), 5 + 1 + 5 + 40);
         due.is("12 back", y.tried(2), 0);
     }
