@@ -165,7 +165,6 @@ public final class BitsEdgesTest {
         edges.refused("2 FULL", Edges.FULL, Due.FULL, y -> y.bit(0, 0, 7, 1));
         edges.refused("2 FULL", Edges.FULL, Due.FULL, y -> y.bit(5, 7, 0, 99));
         edges.refused("2 one SPOT ahead of FULL", Edges.FULL, Due.BAD, y -> y.bit(0, 3, 3, 1));
-        x.keep();
         ShortCut y = new ShortCut();
         y.deal(13);
         y.keep();

@@ -1,4 +1,5 @@
 import java.util.ArrayList;
+import java.util.Arrays;
 import java.util.HashMap;
 import java.util.List;
 import java.util.Map;
@@ -56,11 +57,11 @@ final class Edges {
 
     /** The call is refused so, and behind it all is as in the scene settled. */
     void refusedLike(String name, Scene scene, Scene settled, int want, Call call) {
-        List<List<Integer>> due1 = known.computeIfAbsent(settled, Edges::answers);
+        List<List<Integer>> settledAnswers = known.computeIfAbsent(settled, Edges::answers);
         for (int p = 0; p < PROBES.length; p++) {
             ShortCut x = scene.make();
             due.is(name, call.on(x), want);
-            due.is(name + ", then changed (probe " + p + ")", answers(p, x).equals(due1.get(p)) ? 0 : 1, 0);
+            due.is(name + ", then changed (probe " + p + ")", answers(p, x).equals(settledAnswers.get(p)) ? 0 : 1, 0);
         }
     }
 
@@ -101,7 +102,7 @@ final class Edges {
                 n++;
             }
         }
-        return java.util.Arrays.copyOf(all, n);
+        return Arrays.copyOf(all, n);
     }
 
     // ---- scenes

@@ -11,6 +11,7 @@ public final class RowsEdgesTest {
         checkFirstThatIsNot();
         checkFirstThatIsMissing();
         checkOneTooMany();
+        checkForgetsWhatWaited();
         checkAtTheEnds();
         checkOfBarredAndItself();
         checkUsesUp();
@@ -20,6 +21,7 @@ public final class RowsEdgesTest {
         keepReplaces();
         imageIsApart();
         imageKeepsAll();
+        imageKeepsTheLatest();
         imageKeepsNot();
         backAgainAndAgain();
         backWithoutImage();
@@ -116,6 +118,21 @@ public final class RowsEdgesTest {
         }
         x.tell(0);
         due.is("39 one that was refused is none too many", x.check(0, 1, 30), 0);
+    }
+
+    /** What waited for an earlier check is missing at the next one, though it would be right. */
+    private static void checkForgetsWhatWaited() {
+        for (int many = 0; many < 60; many++) {
+            ShortCut x = track();
+            for (int i = 0; i < 60; i++) {
+                x.tell(told(i));
+            }
+            due.is("39 right", x.check(0, 1, 30), 0);
+            for (int i = 0; i < many; i++) {
+                x.tell(told(i));
+            }
+            due.is("39 then " + many + " told, the next is missing", x.check(0, 1, 30), 1 + many);
+        }
     }
 
     private static void checkAtTheEnds() {
@@ -283,6 +300,25 @@ public final class RowsEdgesTest {
         int[] told = {0, 0, 1, 50, 0, Due.NONE, 50, 0, 20, 50};
         for (int what = 0; what < told.length; what++) {
             due.is("41 as new: told(0, " + what + ")", x.told(0, what), told[what]);
+        }
+    }
+
+    /** One walk that is STUCK and one at its goal, each kept while the other comes behind it. */
+    private static void imageKeepsTheLatest() {
+        int[][] latest = {{1, 1, 7, 1}, {9, 1, 1, 0}};
+        for (int first = 0; first < 2; first++) {
+            ShortCut x = new ShortCut();
+            x.bit(5, 0, 1, 9);
+            x.bit(1, 7, 6, 91);
+            x.walk(first == 0 ? 7 : 0, first == 0 ? 6 : 1);
+            x.keep();
+            x.walk(first == 0 ? 0 : 7, first == 0 ? 1 : 6);
+            x.back();
+            for (int what = 0; what < 4; what++) {
+                due.is("41 the latest WALK again, " + what, x.latest(what), latest[first][what]);
+            }
+            due.is("41 its try again", x.tried(0), first == 0 ? 1 : 0);
+            due.is("41 no more tries", x.tried(1), Due.NONE);
         }
     }
 

@@ -33,6 +33,7 @@ public final class TextsEdgesTest {
         openNots();
         openEachByItself();
         longestTexts();
+        readsAnew();
         everyShortText();
         wraps();
         cuts();
@@ -222,7 +223,7 @@ public final class TextsEdgesTest {
 
     private static void keysAlone() {
         String[] none = {
-            "tak l", "takee l", "hink s", "thin s", "thinks s", "fin m", "fined m", "Fine m", "FINE m",
+            "bake l", "tale l", "taka l", "shink s", "thins s", "wine m", "find m", "tak l", "takee l", "hink s", "thin s", "thinks s", "fin m", "fined m", "Fine m", "FINE m",
             "1 m", "m", "(fine m)", "!fine m", "t", "f"};
         for (String bytes : none) {
             fault(bytes, 0);
@@ -464,6 +465,21 @@ public final class TextsEdgesTest {
         fault("fine " + "9+".repeat(45) + "?", 95);
         fault("fine " + "9+".repeat(45) + " ", 96);
         reads("fine 9" + "+9".repeat(45));
+    }
+
+    /** What a faulty text left behind is nothing to the next one. */
+    private static void readsAnew() {
+        String[] faulty = {
+            "fine ((((((((m", "fine !!!!!!!!", "fine m m", "fine 1 2", "fine 12345", "fine", "take?", "fine 1+(2*3", "m", "1"};
+        for (String bytes : faulty) {
+            ShortCut x = new ShortCut();
+            due.is("26 faulty: '" + bytes + "'", Due.putText(x, bytes) <= -100 ? 1 : 0, 1);
+            due.is("26 behind '" + bytes + "'", Due.putText(x, "fine ((((((((!!!!!!!!7))))))))"), 0);
+            due.is("23 behind '" + bytes + "'", x.fine(), 1);
+            due.is("27 behind '" + bytes + "'", x.textTold(0, 1), 1);
+            Due.putText(x, bytes);
+            due.is("26 faulty, then empty", x.text(), -100);
+        }
     }
 
     /** All texts of up to four of these bytes behind the key, by the twin. */

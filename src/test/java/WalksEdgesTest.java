@@ -82,12 +82,14 @@ public final class WalksEdgesTest {
         ShortCut x = new ShortCut();
         due.is("10 no BITS", x.walk(0, 7), 0);
         isLatest("10 no BITS", x, 0, 0, 0, 1);
+        due.is("10 no BITS, to itself", x.walk(7, 7), 0);
+        isLatest("10 the goal is asked for first", x, 0, 0, 7, 0);
         x.bit(0, 0, 1, 5);
         due.is("10 no BITS there", x.walk(0, 7), 0);
         isLatest("10 no BITS there", x, 0, 0, 0, 1);
         due.is("10 no BITS here", x.walk(7, 0), 0);
         isLatest("10 no BITS here", x, 0, 0, 7, 1);
-        due.is("10 WALKS", x.count(1), 3);
+        due.is("10 WALKS", x.count(1), 4);
         due.is("10 SPENT", x.count(2), 0);
     }
 

@@ -201,7 +201,7 @@ public final class WillBeEdgesTest {
         due.is("17 no way", x.same(0, 7), 1);
         x.set(0, 3, 91);
         due.is("17 barred", x.same(0, 1), 1);
-        edges.refused("17 not by then", Edges.BARE, 1, y -> y.same(0, 1));
+        edges.refused("17 at once", Edges.BARE, 1, y -> y.same(0, 1));
         Edges.Scene never = () -> slower(99);
         edges.refused("17 not by then", never, Due.NONE, y -> y.same(0, 1));
     }
