@@ -27,11 +27,19 @@ public final class LanguageTest {
         "throw", "throws", "try", "catch", "synchronized", "assert", "volatile", "native", "transient",
         "Object", "NaN", "Random", "Thread", "Runtime", "reflect", "equals", "hashCode", "toString"};
 
+    /** Of rule 4, what the class may ask of the library by a class's name. */
+    private static final Set<String> LIBRARY = Set.of(
+        "Math.max", "Math.min", "Math.abs", "Math.floorDiv", "Math.floorMod", "Integer.compare", "Integer.bitCount",
+        "Integer.max", "Integer.min", "Long.compare", "Long.bitCount", "Long.max", "Long.min",
+        "System.arraycopy", "Arrays.copyOf", "Arrays.copyOfRange", "Arrays.fill", "List.of");
+
     public static void main(String[] args) throws IOException {
         face();
+        document(Files.readString(Path.of("../shared/DOC.md")));
         String source = Files.readString(Path.of("src/main/java/ShortCut.java"));
         String code = source.replaceAll("(?s)/\\*.*?\\*/", "").replaceAll("//[^\n]*", "");
         words(code);
+        library(code);
         methods(code);
         inside();
         due.end("LanguageTest");
@@ -60,6 +68,46 @@ public final class LanguageTest {
         due.is("rule 1: final", Modifier.isFinal(ShortCut.class.getModifiers()) ? 1 : 0, 1);
     }
 
+    /** The face once more, as the document writes it out: constants with their values, and each signature. */
+    private static void document(String text) {
+        int from = text.indexOf("public final class ShortCut {");
+        int to = text.indexOf("\n}", from);
+        due.is("the document has a face", from >= 0 && to >= 0 ? 1 : 0, 1);
+        if (from < 0 || to < 0) {
+            return;
+        }
+        String face = text.substring(from, to);
+        Set<String> open = new TreeSet<>();
+        Matcher constant = Pattern.compile("([A-Z]+) = (-?\\d+)").matcher(face);
+        while (constant.find()) {
+            open.add(constant.group(1));
+            due.is("face: " + constant.group(1), valueOf(constant.group(1)), Integer.parseInt(constant.group(2)));
+        }
+        Matcher call = Pattern.compile("public int (\\w+)\\(([^)]*)\\);").matcher(face);
+        while (call.find()) {
+            int parameters = call.group(2).isEmpty() ? 0 : call.group(2).split(",").length;
+            open.add(call.group(1) + " " + parameters);
+        }
+        Set<String> found = new TreeSet<>();
+        Arrays.stream(ShortCut.class.getFields()).forEach(f -> found.add(f.getName()));
+        Arrays.stream(ShortCut.class.getDeclaredMethods()).filter(m -> Modifier.isPublic(m.getModifiers()))
+            .forEach(m -> found.add(m.getName() + " " + m.getParameterCount()));
+        due.is("face: " + found + " as the document's " + open, found.equals(open) ? 1 : 0, 1);
+    }
+
+    private static long valueOf(String constant) {
+        for (Field f : ShortCut.class.getFields()) {
+            if (f.getName().equals(constant) && f.getType() == int.class && Modifier.isStatic(f.getModifiers())) {
+                try {
+                    return f.getInt(null);
+                } catch (IllegalAccessException e) {
+                    return Long.MIN_VALUE;
+                }
+            }
+        }
+        return Long.MIN_VALUE;
+    }
+
     private static boolean isOfFace(String name) {
         return Arrays.stream(FACE).anyMatch(f -> f.startsWith(name + " "));
     }
@@ -78,6 +126,20 @@ public final class LanguageTest {
         due.is("no package", Pattern.compile("\\bpackage\\b").matcher(code).find() ? 1 : 0, 0);
         boolean ascii = code.chars().allMatch(c -> c == '\n' || c >= 32 && c < 127);
         due.is("rule 4: plain signs", ascii ? 1 : 0, 1);
+    }
+
+    private static void library(String code) {
+        Matcher m = Pattern.compile("\\b([A-Z]\\w*[a-z]\\w*\\.\\w+)\\(").matcher(code);
+        while (m.find()) {
+            due.is("rule 4: " + m.group(1), LIBRARY.contains(m.group(1)) ? 1 : 0, 1);
+        }
+        Matcher brought = Pattern.compile("\\bimport ([^;]+);").matcher(code);
+        while (brought.find()) {
+            boolean may = List.of("java.util.Arrays", "java.util.ArrayList", "java.util.List", "java.util.Iterator")
+                .contains(brought.group(1));
+            due.is("rule 4: import " + brought.group(1), may ? 1 : 0, 1);
+        }
+        due.is("rule 4: nothing by its long name", code.replaceAll("import [^;]+;", "").contains("java.") ? 1 : 0, 0);
     }
 
     /** Lengths and parameters, by the one form in which methods are written here. */
